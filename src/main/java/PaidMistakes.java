@@ -135,7 +135,12 @@ public final class PaidMistakes {
         Text text = ruleReader.text;
         text.open(tape, tapeLength);
         tapeLength = 0;
-        ruleReader.readClauses();
+        ruleReader.start();
+        boolean more = true;
+        for (int clause = 0; more && clause <= RULE_CLAUSES; clause++) {
+            ruleReader.readClause();
+            more = text.anotherClause();
+        }
         if (text.fault != 0) {
             return -2 - text.fault;
         }
@@ -543,6 +548,7 @@ public final class PaidMistakes {
         int fault;
 
         Text() {
+            // A token takes a byte at least, and behind them all is the END.
             codes = new int[TAPE_MOST + 1];
             places = new int[TAPE_MOST + 1];
             numbers = new int[TAPE_MOST + 1];
@@ -550,9 +556,9 @@ public final class PaidMistakes {
 
         void open(int[] bytes, int length) {
             tokens = 0;
-            int place = 0;
-            for (int turn = 0; turn < TAPE_MOST && place < length; turn++) {
-                place = cutToken(bytes, place, length);
+            int from = 0;
+            for (int turn = 0; turn < TAPE_MOST && from < length; turn++) {
+                from = cutToken(bytes, from, length);
             }
             addToken(END, length, 0);
             fault = 0;
@@ -650,18 +656,20 @@ public final class PaidMistakes {
         }
 
         private void addToken(int tokenCode, int tokenPlace, int tokenNumber) {
-            put(codes, tokens, tokenCode);
-            put(places, tokens, tokenPlace);
-            put(numbers, tokens, tokenNumber);
-            tokens++;
+            if (tokens >= 0 && tokens < codes.length) {
+                codes[tokens] = tokenCode;
+                places[tokens] = tokenPlace;
+                numbers[tokens] = tokenNumber;
+                tokens++;
+            }
         }
 
-        /** To the next token; behind the END there is only the END. */
+        /** To the next token; from the END there is none. */
         void step() {
-            code = at(codes, next);
-            place = at(places, next);
-            number = at(numbers, next);
-            if (next < tokens - 1) {
+            if (next >= 0 && next < tokens && next < codes.length) {
+                code = codes[next];
+                place = places[next];
+                number = numbers[next];
                 next++;
             }
         }
@@ -792,8 +800,23 @@ public final class PaidMistakes {
 
         /** Whether a fault is OPEN, where those gone are the ones found or mended. */
         boolean isOpen(int fault, int gone) {
-            int over = at(under, fault);
-            return !has(gone, fault) && (over < 0 || has(gone, over));
+            if (fault < 0 || fault >= under.length || (gone >> fault & 1) != 0) {
+                return false;
+            }
+            int over = under[fault];
+            return over < 0 || (gone >> over & 1) != 0;
+        }
+
+        /** The most that one LOOK earns on the mean, times 100. */
+        int mostByOneLook(int gone, int left) {
+            int most = 0;
+            for (int f = 0; f < faults; f++) {
+                int mean = at(odds, f) * at(pay, f);
+                if (mean > most && at(minutes, f) <= left && isOpen(f, gone)) {
+                    most = mean;
+                }
+            }
+            return most;
         }
 
         /** HIDE of all that are not gone. */
@@ -974,15 +997,10 @@ public final class PaidMistakes {
             finish = new int[RULE_CLAUSES];
         }
 
-        void readClauses() {
+        void start() {
             length = 0;
             pieces = 0;
             clauses = 0;
-            boolean more = true;
-            for (int clause = 0; more && clause <= RULE_CLAUSES; clause++) {
-                readClause();
-                more = text.anotherClause();
-            }
         }
 
         Rule makeRule() {
@@ -990,7 +1008,7 @@ public final class PaidMistakes {
             return new Rule(Arrays.copyOf(code, size), clauses, begin.clone(), middle.clone(), finish.clone());
         }
 
-        private void readClause() {
+        void readClause() {
             int word = text.code;
             if (word != LOOK && word != STOP) {
                 text.fail(CANNOT_STAND);
@@ -1073,7 +1091,12 @@ public final class PaidMistakes {
                 text.fail(CANNOT_STAND);
                 return;
             }
-            takePiece();
+            if (pieces >= PIECES_MOST) {
+                text.fail(PIECE_TOO_MANY);
+                return;
+            }
+            pieces++;
+            text.step();
             readSum();
             emit(-sign);
         }
@@ -1110,23 +1133,20 @@ public final class PaidMistakes {
                 text.fail(text.code == LONG_NUMBER ? BAD_NUMBER : CANNOT_STAND);
                 return;
             }
-            emit(isNumber ? text.number : -text.code);
-            takePiece();
-        }
-
-        /** Steps over a VALUE, or the SIGN of a FACT, if there is not one too many. */
-        private void takePiece() {
             if (pieces >= PIECES_MOST) {
                 text.fail(PIECE_TOO_MANY);
                 return;
             }
             pieces++;
+            emit(isNumber ? text.number : -text.code);
             text.step();
         }
 
         private void emit(int what) {
-            put(code, length, what);
-            length++;
+            if (length >= 0 && length < code.length) {
+                code[length] = what;
+                length++;
+            }
         }
     }
 
@@ -1276,24 +1296,21 @@ public final class PaidMistakes {
 
         /** The most that can be earned on the mean; to stop is always free. */
         long mostEarned(Work work, int looks, int gone, int left) {
-            if (looks <= 0) {
-                return 0L;
+            if (looks <= 1) {
+                return looks == 1 ? work.mostByOneLook(gone, left) : 0L;
             }
             // A WORK's number is 1 or more, so no key is 0, as an empty slot's is.
             long key = ((work.serial * 8L + looks) << 19) | (gone << 9) | left;
             int slot = (int) ((key * 0x9E3779B97F4A7C15L) >>> 53) & (SLOTS - 1);
-            // The last LOOK is cheaper to weigh than to keep, and would push out dearer ones.
-            if (looks > 1 && keys[slot] == key) {
+            if (keys[slot] == key) {
                 return kept[slot];
             }
             long most = 0L;
             for (int f = 0; f < work.faults; f++) {
                 most = Math.max(most, earnedBy(work, f, looks, gone, left));
             }
-            if (looks > 1) {
-                keys[slot] = key;
-                kept[slot] = most;
-            }
+            keys[slot] = key;
+            kept[slot] = most;
             return most;
         }
 
