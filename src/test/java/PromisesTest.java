@@ -184,6 +184,12 @@ public final class PromisesTest {
         faultyWork(kinds + "kind 1 1 1", kinds.length(), 4);
         String faults = "kind 1 1 1;" + Check.times("fault 0 1 1;", 10);
         faultyWork(faults + "fault 0 1 1", faults.length(), 4);
+        // The TAPE's last byte is read, and the end behind it.
+        faultyWork(Check.times(" ", 400), 400, 0);
+        faultyWork(Check.times(" ", 399) + "?", 399, 0);
+        faultyWork("kind 1 1 1;fault 0 1 1" + Check.times(" ", 377) + ";", 400, 0);
+        due("400 bytes", Check.work(new PaidMistakes(), one + Check.times(" ", 378)), 1);
+        due("the last byte tells", Check.work(new PaidMistakes(), Check.times(" ", 378) + one), 1);
         // 24 CLAUSES can never stand: a time, 6 KINDS and 10 FAULTS are 17.
         faultyWork(kinds + Check.times("fault 0 1 1;", 10) + "time 1;time 1", 66 + 120 + 7, 4);
     }
@@ -240,6 +246,8 @@ public final class PromisesTest {
         faultyRule("time 5", 0, 0);
         faultyRule("look 1 if 1 = 1 if 1 = 1", 16, 0);
         faultyRule("look\t1", 4, 0);
+        goodRule("look" + Check.times(" ", 395) + "1");
+        faultyRule(Check.times("[", 400), 0, 0);
         goodRule("look 99999*pay/odds-minutes+left");
         goodRule("  stop not[fault<=1or kind>=2and[found=3]]and tries>4 or earned<5 ; look 1if 2>1 ");
         depths();
