@@ -726,6 +726,10 @@ public final class PaidMistakes {
         final int[] pay;
         final int[] hide;
         final int[] mend;
+        // For the Planner: what one LOOK earns on the mean (times 100), the faults by it, the most first.
+        final int[] oneLook;
+        private final int[] byOneLook;
+        int longest;
 
         Work(int serial) {
             this.serial = serial;
@@ -739,6 +743,8 @@ public final class PaidMistakes {
             pay = new int[FAULTS_MOST];
             hide = new int[FAULTS_MOST];
             mend = new int[FAULTS_MOST];
+            oneLook = new int[FAULTS_MOST];
+            byOneLook = new int[FAULTS_MOST];
         }
 
         void readFrom(Text text) {
@@ -750,6 +756,20 @@ public final class PaidMistakes {
             }
             if (faults == 0) {
                 text.fail(CANNOT_STAND);
+            }
+            orderLooks();
+        }
+
+        private void orderLooks() {
+            for (int f = 0; f < faults; f++) {
+                longest = Math.max(longest, at(minutes, f));
+                put(oneLook, f, at(odds, f) * at(pay, f));
+                int place = f;
+                while (place > 0 && at(oneLook, at(byOneLook, place - 1)) < at(oneLook, f)) {
+                    put(byOneLook, place, at(byOneLook, place - 1));
+                    place--;
+                }
+                put(byOneLook, place, f);
             }
         }
 
@@ -809,14 +829,13 @@ public final class PaidMistakes {
 
         /** The most that one LOOK earns on the mean, times 100. */
         int mostByOneLook(int gone, int left) {
-            int most = 0;
-            for (int f = 0; f < faults; f++) {
-                int mean = at(odds, f) * at(pay, f);
-                if (mean > most && at(minutes, f) <= left && isOpen(f, gone)) {
-                    most = mean;
+            for (int i = 0; i < faults; i++) {
+                int f = at(byOneLook, i);
+                if (at(minutes, f) <= left && isOpen(f, gone)) {
+                    return at(oneLook, f);
                 }
             }
-            return most;
+            return 0;
         }
 
         /** HIDE of all that are not gone. */
@@ -1299,15 +1318,17 @@ public final class PaidMistakes {
             if (looks <= 1) {
                 return looks == 1 ? work.mostByOneLook(gone, left) : 0L;
             }
+            // More minutes than so many LOOKS can take are as good as just these, and share their slot.
+            int usable = Math.min(left, looks * work.longest);
             // A WORK's number is 1 or more, so no key is 0, as an empty slot's is.
-            long key = ((work.serial * 8L + looks) << 19) | (gone << 9) | left;
+            long key = ((work.serial * 8L + looks) << 19) | (gone << 9) | usable;
             int slot = (int) ((key * 0x9E3779B97F4A7C15L) >>> 53) & (SLOTS - 1);
             if (keys[slot] == key) {
                 return kept[slot];
             }
             long most = 0L;
             for (int f = 0; f < work.faults; f++) {
-                most = Math.max(most, earnedBy(work, f, looks, gone, left));
+                most = Math.max(most, earnedBy(work, f, looks, gone, usable));
             }
             keys[slot] = key;
             kept[slot] = most;

@@ -90,6 +90,9 @@ public final class DayBoundsTest {
         States.nothingHappens(check, "fault 5 of five", States::busy, x -> x.fault(5, 0), -2);
         States.nothingHappens(check, "fault 4 of five", States::busy, x -> x.fault(4, 3), 1);
         States.nothingHappens(check, "under none: NONE", States::busy, x -> x.fault(3, 3), -1);
+        States.nothingHappens(check, "there", DayBoundsTest::oneOfEach, x -> x.fault(2, 4), 0);
+        States.nothingHappens(check, "found", DayBoundsTest::oneOfEach, x -> x.fault(0, 4), 1);
+        States.nothingHappens(check, "mended", DayBoundsTest::oneOfEach, x -> x.fault(1, 4), 2);
         PaidMistakes x = with("kind 1 1 1" + ";fault 0 7 9".repeat(9) + ";fault 0 8 10 under 8");
         int[] last = {0, 8, 10, 8, 0, 0, 0};
         for (int what = 0; what < 7; what++) {

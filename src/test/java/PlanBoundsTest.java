@@ -22,10 +22,12 @@ public final class PlanBoundsTest {
         seenRefused();
         worthRefused();
         best();
+        bestOfOtherWorks();
         bestStops();
         bestRefused();
         master();
         sixToMend();
+        allToMend();
         masterTies();
         masterRefused();
         games();
@@ -253,6 +255,26 @@ public final class PlanBoundsTest {
         fraction("five times 1 in 100", w.best(5, 0), w.best(5, 1), 10000000000L - 9509900499L, 10000000000L);
     }
 
+    /** What was reckoned for one WORK is not told for another one, nor for an IMAGE's. */
+    private static void bestOfOtherWorks() {
+        PaidMistakes x = with("kind 5 1 99;fault 0 1 100;fault 0 1 100");
+        due("two at 5", x.best(2, 0), 10);
+        due("both are found", x.master(2, 0), 0);
+        x.image(0);
+        Check.work(x, "kind 6 1 99;fault 0 1 100;fault 0 1 100");
+        due("two at 6", x.best(2, 0), 12);
+        Check.work(x, "kind 6 7 99;fault 0 1 100;fault 0 1 0");
+        due("one at 6", x.best(2, 0), 6);
+        due("one stays", x.master(2, 0), 7);
+        x.back(0);
+        due("two at 5 again", x.best(2, 0), 10);
+        Check.work(x, "kind 7 1 99;fault 0 1 100;fault 0 1 100");
+        due("two at 7", x.best(2, 0), 14);
+        x.back(0);
+        x.look(0);
+        due("from now", x.best(2, 0), 5);
+    }
+
     /** "of several the least FAULT; none, if to stop is as good". */
     private static void bestStops() {
         for (int n = 0; n <= 5; n++) {
@@ -331,6 +353,19 @@ public final class PlanBoundsTest {
         }
     }
 
+    /** What is looked for only to open those under it is left alone if all of these are mended; the seventh can't be. */
+    private static void allToMend() {
+        for (int under = 4; under <= 6; under++) {
+            PaidMistakes x = with("kind 0 90 99;kind 9 0 0;fault 0 1 100" + ";fault 1 1 100 under 0".repeat(under));
+            for (int n = 2; n <= 4; n++) {
+                due(under + " under it, n " + n, x.master(n, 2), under == 6 ? 0 : (1 << under) * 2 - 2);
+                due("what is left", x.master(n, 0), under == 6 ? 0 : 90);
+            }
+            due("with one LOOK it is left alone", x.master(1, 2), 0);
+            due("what is left", x.master(1, 0), 90);
+        }
+    }
+
     /** "of several the fewest, then the least as bits". */
     private static void masterTies() {
         PaidMistakes x = with("kind 0 0 0;fault 0 1 100;fault 0 1 100;fault 0 1 100");
@@ -341,7 +376,14 @@ public final class PlanBoundsTest {
         due("of 1, 2 and more the least of the fewest", y.master(1, 2), 2);
         y.mend(1);
         due("then none", y.master(1, 2), 0);
-        // One for 1 coin less than two others together, or as much: the fewest of those as good.
+        // 0 and 1 open a fault each that draws a LOOK away, 2 opens two: one to mend is fewer than two.
+        PaidMistakes two = with("time 2;kind 0 0 0;kind 9 0 99;kind 5 40 99;fault 0 1 0;fault 0 1 0;fault 0 1 0;fault 1 1 100 under 0"
+            + ";fault 1 1 100 under 1;fault 1 1 100 under 2;fault 1 1 100 under 2;fault 2 1 100;fault 2 1 100");
+        due("the fewest, though not the least as bits", two.master(2, 2), 4);
+        due("both stay", two.master(2, 0), 80);
+        two.mend(0);
+        due("then one of 1 and 2: the least", two.master(2, 2), 2);
+        // To mend costs what it brings, or a coin more or less.
         PaidMistakes z = with("time 1;kind 0 0 1;kind 9 0 99;kind 5 40 99;fault 0 1 0;fault 1 1 100 under 0;fault 2 1 100");
         due("worth a coin", z.master(1, 2), 1);
         due("40 less 1", z.master(1, 0), 39);
@@ -652,7 +694,9 @@ public final class PlanBoundsTest {
         x.row(0);
         x.dawn();
         x.day(0);
-        x.game(3, 9);
+        for (int place = 0; place < 8; place++) {
+            x.game(place, 9 + place);
+        }
         x.seed(99);
         Check.work(x, "time 9;kind 1 2 3;fault 0 1 50;fault 0 1 50 under 0");
         x.row(1);

@@ -6,6 +6,7 @@ public final class RunsTest {
     private static final int CALLS = 512;
     private static final int TEXTS = 20000;
     private static final int PLANS = 3000;
+    private static final int LONG_PLANS = 150;
     private static final int METHODS = 28;
     private static final String[] VALUES = {"fault", "kind", "pay", "odds", "minutes", "left", "found", "tries", "earned"};
     private static final int[] WILD = {-1, -2, 0, 7, 8, 10, 24, 100, 999, 1000, 10000, Integer.MIN_VALUE, Integer.MAX_VALUE};
@@ -32,6 +33,9 @@ public final class RunsTest {
             new RunsTest(check, run).plans(run);
             new RunsTest(check, run).games(run);
         }
+        for (int run = 0; run < LONG_PLANS && !check.anyWrong(); run++) {
+            new RunsTest(check, run).longPlans(run);
+        }
         check.close("RunsTest");
     }
 
@@ -56,6 +60,33 @@ public final class RunsTest {
             }
             due(run, "look " + n, x.look(n), model.look(n));
             due(run, "mend " + 2 * n, x.mend(2 * n), model.mend(2 * n));
+        }
+    }
+
+    /** LOOKS of all lengths in more or less time, so that it matters at each step what is left. */
+    private void longPlans(int run) {
+        StringBuilder text = new StringBuilder("time ").append(1 + below(run % 2 == 0 ? 480 : 150));
+        for (int k = 0; k < 3; k++) {
+            text.append(";kind ").append(below(100)).append(' ').append(below(100)).append(' ').append(below(20));
+        }
+        for (int f = 0; f < 6; f++) {
+            text.append(";fault ").append(below(3)).append(' ').append(1 + below(99)).append(' ').append(below(101));
+            if (f > 0 && below(3) == 0) {
+                text.append(" under ").append(below(f));
+            }
+        }
+        tell(run, true, text.toString());
+        for (int turn = 0; turn < 3; turn++) {
+            for (int n = 0; n <= 5; n++) {
+                for (int part = 0; part < 3; part++) {
+                    due(run, "best " + n + " " + part + " of " + text, x.best(n, part), model.best(n, part));
+                }
+                due(run, "master " + n + " of " + text, x.master(n, 0), model.master(n, 0));
+                due(run, "set of " + n + " of " + text, x.master(n, 2), model.master(n, 2));
+            }
+            int fault = below(6);
+            due(run, "look " + fault, x.look(fault), model.look(fault));
+            due(run, "mend " + turn, x.mend(turn), model.mend(turn));
         }
     }
 

@@ -131,6 +131,15 @@ public final class TextBoundsTest {
         due("look 2", y.rule(), 0);
         Check.work(y, "kind 1 1 1;fault 0 1 100");
         due("one LOOK", y.would(0, 4), 1);
+        // Neither do they go on a NUMBER or a WORD that ends the text.
+        PaidMistakes z = new PaidMistakes();
+        Check.tell(z, "kind 1 1 1;fault 0 1 12");
+        z.end(22);
+        due("ODDS 1", z.work(), 1);
+        due("not 12", z.fault(0, 2), 1);
+        Check.tell(z, "look pays");
+        z.end(8);
+        due("look pay", z.rule(), 0);
     }
 
     // ---- the WORK
@@ -408,7 +417,13 @@ public final class TextBoundsTest {
             boolean blank = b == ' ';
             boolean digit = b >= '0' && b <= '9';
             boolean sums = "+-*/".indexOf(b) >= 0;
+            boolean letter = b >= 'a' && b <= 'z';
             badRule(sign, blank ? 1 : 0, 0);
+            if (blank) {
+                goodRule("look pay" + sign);
+            } else {
+                badRule("look pay" + sign, letter ? 5 : sums || b == ';' ? 9 : 8, 0);
+            }
             badRule("look " + sign + (digit ? "x" : ""), digit || blank ? 6 : 5, 0);
             badRule("stop " + sign, digit || blank || b == '[' ? 6 : 5, 0);
             badRule("stop 1" + sign, digit || blank || sums || "<=>".indexOf(b) >= 0 ? 7 : 6, 0);
