@@ -840,30 +840,22 @@ public final class PaidMistakes {
 
         /** HIDE of all that are not gone. */
         int hiddenCoins(int gone) {
-            int sum = 0;
-            for (int f = 0; f < faults; f++) {
-                if (!has(gone, f)) {
-                    sum += at(hide, f);
-                }
-            }
-            return sum;
+            return together(hide, ~gone);
         }
 
         int payOf(int set) {
-            int sum = 0;
-            for (int f = 0; f < faults; f++) {
-                if (has(set, f)) {
-                    sum += at(pay, f);
-                }
-            }
-            return sum;
+            return together(pay, set);
         }
 
         int mendingOf(int set) {
+            return together(mend, set);
+        }
+
+        private int together(int[] coins, int set) {
             int sum = 0;
             for (int f = 0; f < faults; f++) {
                 if (has(set, f)) {
-                    sum += at(mend, f);
+                    sum += at(coins, f);
                 }
             }
             return sum;
