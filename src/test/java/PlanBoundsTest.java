@@ -28,6 +28,7 @@ public final class PlanBoundsTest {
         master();
         sixToMend();
         allToMend();
+        allThatMayBeMended();
         masterTies();
         masterRefused();
         games();
@@ -363,6 +364,18 @@ public final class PlanBoundsTest {
             }
             due("with one LOOK it is left alone", x.master(1, 2), 0);
             due("what is left", x.master(1, 0), 90);
+        }
+    }
+
+    /** Each of those ahead is worth a LOOK with the one that hides much: only if all are mended is it left alone. */
+    private static void allThatMayBeMended() {
+        for (int ahead = 5; ahead <= 7; ahead++) {
+            PaidMistakes x = with("time 10;kind 30 0 1;kind 31 99 99;kind 50 0 99" + ";fault 0 5 100".repeat(ahead)
+                + ";fault 1 5 100;fault 2 10 100");
+            for (int n = 2; n <= 4; n++) {
+                due(ahead + " to mend, n " + n, x.master(n, 2), ahead == 7 ? 0 : (1 << ahead) - 1);
+                fraction("what is left", x.master(n, 0), x.master(n, 1), ahead == 7 ? 0 : 99 - ahead, 1);
+            }
         }
     }
 

@@ -33,6 +33,7 @@ public final class TextBoundsTest {
         depthMeans();
         pieces();
         piecesOfAll();
+        longRulesMean();
         leastOfAPlace();
         lastBytes();
         check.close("TextBoundsTest");
@@ -598,6 +599,21 @@ public final class TextBoundsTest {
         due("12 CLAUSES", Check.rule(x, "look 1" + ";look 1".repeat(11)), 3);
         due("13", Check.rule(x, "look 1" + ";look 1".repeat(12)), Check.faulty(84, 4));
         due("12 again", Check.rule(x, "look 1" + ";look 1".repeat(11)), 4);
+    }
+
+    /** Six RULES of nearly all the VALUES there may be, each behind a faulty one as long: each means what it says. */
+    private static void longRulesMean() {
+        PaidMistakes x = new PaidMistakes();
+        Check.work(x, "kind 1 1 1;kind 9 1 1;fault 0 1 100;fault 1 1 100");
+        String dearest = "look 0-pay" + "+0".repeat(54) + ";stop found>0";
+        String cheapest = "look 0+pay" + "+0".repeat(54) + ";stop found>0";
+        for (int rule = 0; rule < 6; rule++) {
+            due("faulty, " + rule + " ahead", Check.rule(x, dearest + ";"), Check.faulty(132, 0));
+            due("long, " + rule + " ahead", Check.rule(x, rule % 2 == 0 ? dearest : cheapest), rule);
+        }
+        for (int rule = 0; rule < 6; rule++) {
+            due("found by long RULE " + rule, x.would(rule, 1), rule % 2 == 0 ? 2 : 1);
+        }
     }
 
     /** "the first along the text ... Of one place the least." */
